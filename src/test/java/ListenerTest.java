@@ -12,6 +12,8 @@ public final class ListenerTest {
         lockKeptByTenOnes();
         lockLostWhileReading();
         lockFoundAgain();
+        abortedInAGroup();
+        tenOnesBehindALock();
         onesCountedAnewBehindALock();
         countEdges();
         endings();
@@ -103,6 +105,15 @@ public final class ListenerTest {
         g.marks("+".repeat(30));
         g.plain("00010001");
         EXPECT.same("ones from before the lock", g.x.state(), 1);
+        Forger h = Forger.fresh(line());
+        h.marks("+".repeat(30));
+        h.plain("100010001");
+        EXPECT.same("nine bits behind the lock", h.x.state(), 1);
+        // K's last bit, a 1, could be J's first one if the mark before a frame still counted behind it.
+        Forger k = Forger.locked(line());
+        EXPECT.same("early at once", k.plain(Bits.JK + Bits.I), 1);
+        k.plain("100010001");
+        EXPECT.same("nine bits behind a frame", k.x.state(), 1);
     }
 
     private static void lockLostWhileHunting() {
@@ -182,6 +193,25 @@ public final class ListenerTest {
         f.plain("00000");
         EXPECT.same("quiet was counted from 0 again", f.x.state(), 1);
         EXPECT.same("one frame was aborted", f.x.count(ScrambledLine.ABORTED), 1);
+    }
+
+    private static void abortedInAGroup() {
+        Forger f = Forger.locked(line());
+        EXPECT.same("aborted with three bits of a group read", f.plain("0" + Bits.JK + zeros(385) + "1111"), 1);
+        EXPECT.same("aborted", f.x.count(ScrambledLine.ABORTED), 1);
+        f.marks("+".repeat(30));
+        EXPECT.same("the next frame's groups begin anew", f.plain(Bits.JK + Bits.I), 1);
+        EXPECT.same("early", f.x.count(ScrambledLine.EARLY), 1);
+    }
+
+    private static void tenOnesBehindALock() {
+        Forger f = Forger.fresh(new ScrambledLine(1, 8, ADDRESS));
+        f.marks("+".repeat(30));
+        f.plain("11111111110");
+        f.bareLine(398);
+        EXPECT.same("ten ones, 399 quiet bits", f.x.state(), 1);
+        f.plain("0");
+        EXPECT.same("ten ones, 400 quiet bits", f.x.state(), 0);
     }
 
     /** With seed 1 the scrambler has no ten equal keys in a row for long, so the bare line is quiet to a register of 0. */
