@@ -2,20 +2,22 @@
 final class Expect {
     private int checked = 0;
     private int wrong = 0;
+    private String sentence = "";
+
+    /** The words of the document that the checks behind this are about. */
+    void about(String words) {
+        sentence = "[" + words + "] ";
+    }
 
     void same(String what, long got, long due) {
-        checked++;
-        if (got != due) {
-            wrong++;
-            System.out.println(what + ": got " + got + ", due is " + due);
-        }
+        same(what, String.valueOf(got), String.valueOf(due));
     }
 
     void same(String what, String got, String due) {
         checked++;
         if (!got.equals(due)) {
             wrong++;
-            System.out.println(what + ": got " + got + ", due is " + due);
+            System.out.println(sentence + what + ": got " + got + ", due is " + due);
         }
     }
 

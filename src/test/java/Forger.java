@@ -20,6 +20,37 @@ final class Forger {
         return f;
     }
 
+    /** A listener that has just locked, quiet 0 and no ones, with its register 0: there a plain bit is a mark. */
+    static Forger justLocked(ScrambledLine x) {
+        Forger f = new Forger(x);
+        f.marks("+".repeat(30));
+        return f;
+    }
+
+    /** The status of the one frame that these bits end, -1 if none ends, -2 if several do. */
+    int statusOf(String bits) {
+        int[] before = counts();
+        int ended = plain(bits);
+        if (ended != 1) {
+            return ended == 0 ? -1 : -2;
+        }
+        int[] behind = counts();
+        for (int status = 0; status <= 10; status++) {
+            if (behind[status] == before[status] + 1) {
+                return status;
+            }
+        }
+        return -2;
+    }
+
+    private int[] counts() {
+        int[] row = new int[11];
+        for (int status = 0; status <= 10; status++) {
+            row[status] = x.count(status);
+        }
+        return row;
+    }
+
     /** Undisturbed bit times: how many frames ended. */
     int idle(int n) {
         int ended = x.run(n);
