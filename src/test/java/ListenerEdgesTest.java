@@ -11,6 +11,8 @@ public final class ListenerEdgesTest {
         markAgainstTheLevelGotBefore();
         levelBeforeTheFirst();
         registerAtFirst();
+        registerWrapsBeforeTheLock();
+        registerWrapsBehindTheLock();
         runGrowsAndBecomesZero();
         lockedAtThirty();
         huntBeginsWithTheLock();
@@ -148,6 +150,30 @@ public final class ListenerEdgesTest {
         g.marks("+");
         EXPECT.same("another register: a run of 30", g.x.state(), 1);
         EXPECT.same("keys of bits 8 and 10", g.statusOf(Bits.sent(FINE)), ScrambledLine.GOOD);
+    }
+
+    private static void registerWrapsBeforeTheLock() {
+        EXPECT.about("the register becomes (2 * it + (mark ^ 1)) modulo 2048");
+        // Far more bits go in than the register has, and only the last eleven count.
+        Forger f = Forger.fresh(line());
+        f.marks("-".repeat(70));
+        EXPECT.same("70 that do not fit", f.x.state(), 0);
+        f.marks("+".repeat(30));
+        EXPECT.same("30 that fit", f.x.state(), 1);
+        EXPECT.same("a frame in that place", f.statusOf(Bits.sent(FINE)), ScrambledLine.GOOD);
+    }
+
+    private static void registerWrapsBehindTheLock() {
+        EXPECT.about("the register becomes (2 * it + key) modulo 2048");
+        int[] bitTimes = {2045, 2050, 4100, 20480};
+        for (int n : bitTimes) {
+            ScrambledLine x = line();
+            Tap.go(x, n);
+            EXPECT.same("locked behind " + n, x.state(), 1);
+            x.send(ADDRESS);
+            EXPECT.same("a frame behind " + n, x.run(175), 1);
+            EXPECT.same("it is good", x.count(ScrambledLine.GOOD), 1);
+        }
     }
 
     private static void runGrowsAndBecomesZero() {

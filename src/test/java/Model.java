@@ -87,6 +87,20 @@ final class Model {
         return register.charAt(2) == register.charAt(0) ? 0 : 1;
     }
 
+    /** The levels that make its listener, once it has locked, get these plain bits; for each mark one of two is chosen. */
+    int[] levelsFor(String plain, java.util.Random random) {
+        int[] levels = new int[plain.length()];
+        String register = heardRegister;
+        int before = heardLevel;
+        for (int i = 0; i < levels.length; i++) {
+            int key = key(register);
+            register = register.substring(1) + key;
+            if (plain.charAt(i) - '0' != key) before = (before + 1 + 1 + random.nextInt(2)) % 3 - 1;
+            levels[i] = before;
+        }
+        return levels;
+    }
+
     private void bitTime() {
         now++;
         if (out.isEmpty()) {

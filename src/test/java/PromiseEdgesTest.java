@@ -49,7 +49,8 @@ public final class PromiseEdgesTest {
 
         waitingFromZeroToFour();
         sendingFromFirstBitToLast();
-        levelAndRegister();
+        levelOfTheLine();
+        registerOfTheSender();
         stateOfTheListener();
 
         countBad();
@@ -58,11 +59,13 @@ public final class PromiseEdgesTest {
         noGoodFrame();
         sourceEdges();
         lengthEdges();
-        byteEdges();
+        bytesOfTheData();
+        noSuchByte();
         latestOfSeveral();
         spoiltFramesAreNotTheLatest();
 
         callsUpTo512();
+        objectsSideBySide();
         EXPECT.end();
     }
 
@@ -361,21 +364,36 @@ public final class PromiseEdgesTest {
 
     /** A station whose frame's last bit, which makes or spoils R, goes out in the k-th bit time from now. */
     private static ScrambledLine endingIn(int k) {
+        return endingIn(k, 0);
+    }
+
+    /** The same with a frame that begins so much later. */
+    private static ScrambledLine endingIn(int k, int later) {
         ScrambledLine x = idling();
+        Tap.go(x, later);
         x.send(ADDRESS);
         x.run(LEAST_BITS - k);
         return x;
     }
 
-    /** A level that the line does not have in the k-th bit time of such a station. */
+    private static int levelIn(int lastBitIn, int later, int k) {
+        ScrambledLine twin = endingIn(lastBitIn, later);
+        Tap.go(twin, k);
+        return twin.level();
+    }
+
+    /** The level that makes a mark of none, or none of a mark, in the k-th bit time of such a station. */
+    private static int wrongLevel(int lastBitIn, int later, int k) {
+        int before = levelIn(lastBitIn, later, k - 1);
+        return levelIn(lastBitIn, later, k) != before ? before : before == 0 ? 1 : 0;
+    }
+
     private static int wrongLevel(int lastBitIn, int k) {
-        return levelIn(lastBitIn, k) == 0 ? 1 : 0;
+        return wrongLevel(lastBitIn, 0, k);
     }
 
     private static int levelIn(int lastBitIn, int k) {
-        ScrambledLine twin = endingIn(lastBitIn);
-        twin.run(k);
-        return twin.level();
+        return levelIn(lastBitIn, 0, k);
     }
 
     private static void endsAs(String what, ScrambledLine x, int lastBitIn, int status) {
@@ -413,6 +431,13 @@ public final class PromiseEdgesTest {
             ScrambledLine x = endingIn(k);
             x.hit(k, wrongLevel(k, k));
             endsAs("last bit and hit in " + k, x, k, ScrambledLine.TORN);
+        }
+        for (int later = 5; later <= 100; later += 5) {
+            for (int k = 1; k <= 100; k += 99) {
+                ScrambledLine x = endingIn(k, later);
+                x.hit(k, wrongLevel(k, later, k));
+                endsAs("hit in " + k + ", a frame " + later + " later", x, k, ScrambledLine.TORN);
+            }
         }
         ScrambledLine x = idling();
         for (int k = 1; k <= 100; k++) {
@@ -621,18 +646,38 @@ public final class PromiseEdgesTest {
         }
     }
 
-    private static void levelAndRegister() {
-        EXPECT.about("The level of the line. / The sender's register.");
+    private static void levelOfTheLine() {
+        EXPECT.about("The level of the line.");
         ScrambledLine x = line();
-        EXPECT.same("level before the first bit", x.level(), 0);
-        EXPECT.same("register before the first bit", x.register(), SEED);
+        EXPECT.same("before the first bit", x.level(), 0);
         int[] seen = new int[3];
-        for (int i = 1; i <= 150; i++) {
+        for (int i = 1; i <= 100; i++) {
             x.run(1);
             seen[x.level() + 1]++;
-            EXPECT.same("register behind " + i, x.register(), Tap.registerAt(SEED, i));
         }
-        EXPECT.yes("all three levels", seen[0] > 0 && seen[1] > 0 && seen[2] > 0);
+        EXPECT.yes("-1 is reached", seen[0] > 0);
+        EXPECT.yes("0 is reached", seen[1] > 0);
+        EXPECT.yes("1 is reached", seen[2] > 0);
+        // A refused call, or one that only asks, leaves the line alone.
+        int level = x.level();
+        x.run(0);
+        x.hit(1, -1);
+        x.hit(1, 1);
+        x.send(ADDRESS);
+        EXPECT.same("without a bit time", x.level(), level);
+    }
+
+    private static void registerOfTheSender() {
+        EXPECT.about("The sender's register.");
+        ScrambledLine x = line();
+        EXPECT.same("before the first bit", x.register(), SEED);
+        for (int i = 1; i <= 150; i++) {
+            x.run(1);
+            EXPECT.same("behind " + i, x.register(), Tap.registerAt(SEED, i));
+        }
+        x.send(ADDRESS);
+        x.run(100);
+        EXPECT.same("in a frame", x.register(), Tap.registerAt(SEED, 250));
     }
 
     private static void stateOfTheListener() {
@@ -743,15 +788,28 @@ public final class PromiseEdgesTest {
         }
     }
 
-    private static void byteEdges() {
-        EXPECT.about("Byte i, 0 to 255, of the data of the latest good frame. BAD when .. it has no such byte.");
+    private static void bytesOfTheData() {
+        EXPECT.about("Byte i, 0 to 255, of the data of the latest good frame.");
+        int[] lengths = {1, 5, 6, 7, 23, 24};
+        for (int length : lengths) {
+            good(heardWith(length), length + " bytes", length, 250);
+        }
+    }
+
+    /** A station that has heard a good frame with so many bytes, 250 and on, 0 behind 255. */
+    private static ScrambledLine heardWith(int length) {
+        ScrambledLine x = idling();
+        give(x, length, 250);
+        x.send(ADDRESS);
+        x.run(MOST_BITS);
+        return x;
+    }
+
+    private static void noSuchByte() {
+        EXPECT.about("BAD when there was none, or it has no such byte.");
         int[] lengths = {0, 1, 5, 6, 7, 23, 24};
         for (int length : lengths) {
-            ScrambledLine x = idling();
-            give(x, length, 250);
-            x.send(ADDRESS);
-            x.run(MOST_BITS);
-            good(x, length + " bytes", length, 250);
+            ScrambledLine x = heardWith(length);
             int[] none = {-1, -2, -24, length, length + 1, 24, 25, 31, 256, Integer.MIN_VALUE, Integer.MAX_VALUE};
             for (int i : none) {
                 EXPECT.same(length + " bytes: byteOf(" + i + ")", x.byteOf(i), BAD);
@@ -823,5 +881,28 @@ public final class PromiseEdgesTest {
         }
         EXPECT.same("still locked", z.state(), 1);
         EXPECT.same("nothing ended", z.run(400), 0);
+    }
+
+    private static void objectsSideBySide() {
+        EXPECT.about("A new object");
+        ScrambledLine x = idling();
+        ScrambledLine y = new ScrambledLine(SEED + 1, SOURCE + 1, ADDRESS + 1);
+        y.run(100);
+        give(x, 24, 1);
+        give(y, 2, 101);
+        x.send(ADDRESS);
+        y.send(ADDRESS + 1);
+        for (int i = 0; i < 70; i++) {
+            x.run(5);
+        }
+        EXPECT.same("the other's frame still waits", y.waiting(), 1);
+        EXPECT.same("the other's register", y.register(), Tap.registerAt(SEED + 1, 100));
+        EXPECT.same("the other heard nothing", y.source(), BAD);
+        good(x, "the first one's", 24, 1);
+        EXPECT.same("its source", x.source(), SOURCE);
+        ScrambledLine z = line();
+        EXPECT.same("a third one is new", z.register(), SEED);
+        EXPECT.same("no data given to it", z.data(1), 1);
+        EXPECT.same("no good frame", z.length(), BAD);
     }
 }

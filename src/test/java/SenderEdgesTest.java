@@ -14,6 +14,7 @@ public final class SenderEdgesTest {
         lengthOfAFrame();
         paddingToSix();
         paddingBehindLongFrames();
+        allOfAFrame();
         checkOfAFrame();
         lowerNibbleFirst();
         everyGroup();
@@ -104,6 +105,15 @@ public final class SenderEdgesTest {
         int from = 4 * (30 + longBits) + 30 - 31;
         String got = Tap.bits(station, Tap.registerAt(SEED, 31), from, LEAST_BITS);
         EXPECT.same("one byte where 24 were", got, Bits.sent(Bits.frame(9, SOURCE, 170)));
+    }
+
+    private static void allOfAFrame() {
+        EXPECT.about("What is sent for a frame: J, K, the nibbles 5, 5, 5, 13, those of all its bytes, T, R.");
+        String due = "11000" + "10001" + "01011" + "01011" + "01011" + "11011";
+        EXPECT.same("before its bytes", Tap.bits(() -> with(1), SEED, 30, due.length()), due);
+        EXPECT.same("behind them", Tap.bits(() -> with(1), SEED, 30 + LEAST_BITS - 10, 15), "01101" + "00111" + "11111");
+        String longest = Tap.bits(() -> with(1, new int[24]), SEED, 30 + 5 * 70 - 10, 15);
+        EXPECT.same("behind those of the longest", longest, "01101" + "00111" + "11111");
     }
 
     private static void checkOfAFrame() {
